@@ -329,6 +329,14 @@ public final class PromisesTest {
         due("last", x.run(9), 1);
         due("over", x.thread(0, 2), 2);
         due("result", x.result(0), 9);
+        begin("5 CALL, a second frame has nothing of the first");
+        code(0, PUSH, 3, CALL, 4, CALL, 4);
+        code(4, PUSH, 1, PUSH, 2, STORE, 3, PUSH, 5, RETURN, 0);
+        x.start(0, 0, 0);
+        due("run", x.run(8), 8);
+        x.suspend(0);
+        check.row("callee", new long[] {x.frame(0, 0, 0), x.frame(0, 0, 1), x.frame(0, 0, 3), x.local(0, 0, 0),
+            x.local(0, 0, 3)}, 4, 0, 0, 5, 0);
     }
 
     private static void runReferences() {
@@ -481,6 +489,10 @@ public final class PromisesTest {
         due("a clear makes no room", x.clear(0), 1);
         due("a 17th", x.request(BREAK, 0, 0, 0, 0), R);
         due("made", x.count(4), 16);
+        due("on", x.count(5), 15);
+        due("a run looks at all of them", x.run(1), 1);
+        check.row("events: an entry, a break, and behind the fault an exception",
+            new long[] {x.event(0), x.next(), x.event(0), x.next(), x.event(0), x.next()}, 8, 2, 10, 1, 7, 0);
     }
 
     private static void requestBreak() {
@@ -853,6 +865,16 @@ public final class PromisesTest {
         due("the next", x.local(0, 0, 4), REF + 1);
         due("the same", x.local(0, 0, 6), REF);
         due("given", x.count(1), 2);
+        still("13 IDs, each leads to its own object", 6, NEW, 0, STORE, 1, NEW, 0, STORE, 2, LOAD, 2, PUSH, 7, PUT, 0);
+        x.resume(0);
+        due("run", x.run(1), 1);
+        x.suspend(0);
+        due("the object that was made last", x.local(0, 0, 2), REF);
+        due("the first one", x.local(0, 0, 1), REF + 1);
+        due("its field", x.field(0, 0), 7);
+        due("the other's", x.field(1, 0), 0);
+        due("set", x.setReference(0, 0, 3, 0), 1);
+        due("local", x.local(0, 0, 3), REF);
         begin("13 IDs, 64 at the most");
         code(0, NEW, 0, STORE, 0, GOTO, 0);
         x.start(0, 0, 0);
@@ -1011,6 +1033,25 @@ public final class PromisesTest {
         due("the old one", x.field(0, 0), GONE);
         due("not pinned", x.pin(1, false), 0);
         due("fields 0 at first", x.field(1, 0), 0);
+        for (int field = 0; field < 2; field++) {
+            still("18 collect, along field " + field, 4, NEW, 0, STORE, 1, LOAD, 1, NEW, 0, PUT, field, GOTO, 5);
+            x.resume(0);
+            due("run", x.run(1), 1);
+            x.suspend(0);
+            due("held", x.collect(), 0);
+            x.setInt(0, 0, 1, 0);
+            due("not held", x.collect(), 2);
+        }
+        still("18 collect, a new object has nothing of one that is gone", 8,
+            NEW, 0, STORE, 1, LOAD, 1, PUSH, 5, PUT, 0, LOAD, 1, PUSH, 6, PUT, 1, NEW, 0, STORE, 1);
+        x.setInt(0, 0, 1, 0);
+        due("collect", x.collect(), 1);
+        x.resume(0);
+        x.run(2);
+        x.suspend(0);
+        due("ID", x.local(0, 0, 1), REF);
+        due("field 0", x.field(0, 0), 0);
+        due("field 1", x.field(0, 1), 0);
         still("18 collect, what was on a stack holds nothing", 2, NEW, 0, STORE, 1);
         x.setInt(0, 0, 1, 0);
         due("collect", x.collect(), 1);
