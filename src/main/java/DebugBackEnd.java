@@ -188,11 +188,7 @@ public final class DebugBackEnd {
         if (!within(thread, 0, ALL_THREADS)) {
             return REFUSED;
         }
-        for (int i = 0; i < THREADS; i++) {
-            if (thread == i || thread == ALL_THREADS) {
-                strands[i].suspendCount++;
-            }
-        }
+        addToSuspendCount(thread);
         return suspendCountTold(thread);
     }
 
@@ -420,19 +416,19 @@ public final class DebugBackEnd {
             Request asked = requests[i];
             if (asked.on && asked.wants(thread, strands[thread], shown) && asked.comesAfterSkip()) {
                 events.add(i, asked.kind);
-                suspendFor(asked.policy, thread);
-                suspends = suspends || asked.policy != POLICY_NOTHING;
+                if (asked.policy != POLICY_NOTHING) {
+                    addToSuspendCount(asked.policy == POLICY_ALL ? ALL_THREADS : thread);
+                    suspends = true;
+                }
             }
         }
         return suspends;
     }
 
-    private void suspendFor(int policy, int thread) {
-        if (policy == POLICY_NOTHING) {
-            return;
-        }
+    /** Of one thread, or of all. */
+    private void addToSuspendCount(int thread) {
         for (int i = 0; i < THREADS; i++) {
-            if (policy == POLICY_ALL || i == thread) {
+            if (thread == i || thread == ALL_THREADS) {
                 strands[i].suspendCount++;
             }
         }
