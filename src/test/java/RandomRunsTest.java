@@ -35,6 +35,7 @@ public final class RandomRunsTest {
             check.due("refused often", refused[promise] > 500 || promise == 18 ? 1 : 0, 1);
         }
         makesNoObjects();
+        doesNotThrowLater();
         check.end();
     }
 
@@ -178,5 +179,22 @@ public final class RandomRunsTest {
         long bytes = bean.getThreadAllocatedBytes(thread) - before;
         // One object a call would be 16 bytes each at the least; the bean itself makes a little.
         check.due("512 calls make next to nothing (" + bytes + " bytes)", bytes < CALLS * 8 ? 1 : 0, 1);
+    }
+
+    /** What an object answers after its 512th call is free, but no call may ever throw. */
+    private static void doesNotThrowLater() {
+        check.part("long after the 512th call");
+        for (int seed = 0; seed < 20; seed++) {
+            Random random = new Random(seed);
+            DebugBackEnd x = new DebugBackEnd();
+            for (int[] n : setUp(random)) {
+                call(x, promiseOf(n), n);
+            }
+            for (int i = 0; i < 20000; i++) {
+                int promise = pick(random);
+                call(x, promise, arguments(random, promise, 10));
+            }
+            check.due("steps were made", x.count(6) > 0 ? 1 : 0, 1);
+        }
     }
 }
